@@ -777,7 +777,9 @@ public final class ScoreSheaf {
         }
 
         void copySheaves(Version parent) {
-            System.arraycopy(parent.sheaves, 0, sheaves, 0, SLOTS);
+            for (int slot = 0; slot < SLOTS; slot++) {
+                sheaves[slot] = parent.sheaves[slot];
+            }
         }
 
         void mergeSheaves(Version first, Version second, Version base, Piece piece) {

@@ -132,8 +132,12 @@ public final class PromiseTest {
         }
         DUE.isThrown("2 six pieces", x, STATE, () -> x.piece(1, 1));
         DUE.isThrown("2 the range comes first", x, ARGUMENT, () -> x.piece(0, 1));
+        DUE.isThrown("3 no seventh", x, INDEX, () -> x.firstOf(6));
+        DUE.isThrown("21 no seventh", x, INDEX, () -> x.points(3, 6));
+        DUE.isThrown("22 no seventh", x, INDEX, () -> x.ranked(6));
         ScoreSheaf y = full();
         DUE.isThrown("2 forty versions", y, STATE, () -> y.piece(1, 1));
+        DUE.isThrown("4 no forty-first", y, INDEX, () -> y.pieceOf(40));
         DUE.isThrown("2 the range before forty", y, ARGUMENT, () -> y.piece(1, 5));
     }
 
@@ -456,6 +460,7 @@ public final class PromiseTest {
         is("15 written away", x.doubts(solved), 1);
         is("16 two", x.unlike(a, b), 2);
         is("16 turned", x.unlike(b, a), 2);
+        is("16 a row more", x.unlike(a, m), 2);
         is("16 the same", x.unlike(a, a), 0);
         is("16 one of the rows", x.unlike(m, a) * 10 + x.unlike(solved, a), 21);
         int like = write(x, solved, 5, 0, 0, 5);
@@ -577,6 +582,10 @@ public final class PromiseTest {
             x.mark(juror, 1, 0, 6);
         }
         is("21 one of like ones", x.points(1, 0), 12);
+        markAll(x, 2, 0, 0, 0, 0, 0);
+        is("21 of nothing but 0", x.points(2, 0), 0);
+        markAll(x, 2, 1, 20, 20, 20, 20, 20);
+        is("21 of nothing but 20", x.points(2, 1), 60);
         for (int none : new int[] {-1, 4, LOW, HIGH}) {
             DUE.isThrown("21 round", x, INDEX, () -> x.points(none, 0));
         }
@@ -737,6 +746,7 @@ public final class PromiseTest {
             is("24 further numbers", x.give(1, 1), prize);
         }
         DUE.isThrown("24 twelve", x, STATE, () -> x.give(0, 1));
+        DUE.isThrown("25 no thirteenth", x, INDEX, () -> x.named(12));
         DUE.isThrown("24 the range before twelve", x, ARGUMENT, () -> x.give(0, 10000));
         x.piece(1, 1);
         DUE.isThrown("24 heard before twelve", x, OPERATION, () -> x.give(2, 1));
@@ -782,6 +792,13 @@ public final class PromiseTest {
         x.hear(1, m);
         x.give(0, 10);
         is("26 all rows of a sheaf, none of the merger", shares(x, 0), "0 3 0 7 0 0 ");
+        x.give(0, 2);
+        is("26 the greater rest is the lower editor's", shares(x, 1), "0 1 0 1 0 0 ");
+        ScoreSheaf y = new ScoreSheaf();
+        y.piece(1, 1);
+        y.hear(0, 0);
+        y.give(0, 5);
+        is("26 of one part in all", shares(y, 0), "5 0 0 0 0 0 ");
     }
 
     private static String shares(ScoreSheaf x, int prize) {
@@ -867,6 +884,8 @@ public final class PromiseTest {
     private static void promise33() {
         ScoreSheaf x = withPieces(3);
         is("33 like pieces", x.isSound(), true);
+        x.piece(8, 4);
+        is("33 pieces of other sizes", x.isSound(), true);
         int a = write(x, write(x, 0, 1, 0, 0, 5), 1, 1, 1, 6);
         int b = write(x, write(x, 0, 2, 0, 1, 5), 2, 1, 0, 6);
         int m = x.merge(a, b, 0);
