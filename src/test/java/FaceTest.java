@@ -8,11 +8,18 @@ import java.nio.file.Path;
 import java.util.ArrayList;
 import java.util.List;
 import java.util.TreeSet;
+import java.util.regex.Pattern;
 
-/** The face of the class is the document's, and the source keeps to the plainest rules of LANGUAGE.md. */
+/** The face of the class is the document's, and the source keeps to the rules of LANGUAGE.md that its words show. */
 public final class FaceTest {
-    private static final String[] RULED_OUT = {"->", "::", "finally", "synchronized", "assert ", "Math.random",
-        "currentTime", "nanoTime", "catch", "hashCode", "instanceof", "native", "volatile", "abstract", "protected"};
+    private static final String[] RULED_OUT = {"::", "\\bfinally\\b", "\\bsynchronized\\b", "\\bassert\\b", "\\bprotected\\b",
+        "\\bvolatile\\b", "\\bnative\\b", "\\bThread\\b", "\\bRandom\\b", "\\bSystem\\.(?!arraycopy)", "Exact\\(", "hashCode",
+        "^package ", "getMessage", "extends \\w*Exception", "^import java\\.(?!util\\.(Arrays|ArrayList|List|Iterator"
+        + "|NoSuchElementException);)", "^import (?!java\\.)", "catch .*(Throwable|\\(Exception|ArrayIndexOutOfBounds"
+        + "|NullPointer|ClassCast|NegativeArraySize|ArrayStore)"};
+    /** 'Some sixty' and 'some twelve'. */
+    private static final int MOST_LINES = 66;
+    private static final int MOST_CLASSES = 14;
 
     private static final Due DUE = new Due();
 
@@ -70,36 +77,53 @@ public final class FaceTest {
         }
         for (Method m : ScoreSheaf.class.getDeclaredMethods()) {
             boolean own = Modifier.isPrivate(m.getModifiers()) && !open.contains(m.getName());
-            DUE.is(m.getName() + " is public or private", Modifier.isPublic(m.getModifiers()) || own, true);
+            boolean is = m.isSynthetic() || Modifier.isPublic(m.getModifiers()) || own;
+            DUE.is("rule 1: " + m.getName() + " is public, or private with a name of its own", is, true);
         }
         for (Field f : ScoreSheaf.class.getDeclaredFields()) {
-            DUE.is(f.getName() + " is private", Modifier.isPrivate(f.getModifiers()), true);
+            DUE.is("rule 1: " + f.getName() + " is private", Modifier.isPrivate(f.getModifiers()), true);
             int both = f.getModifiers() & (Modifier.STATIC | Modifier.FINAL);
-            DUE.is(f.getName() + " is final if static", both != Modifier.STATIC, true);
+            DUE.is("rule 5: " + f.getName() + " is final if static", both != Modifier.STATIC, true);
         }
-        for (Class<?> c : ScoreSheaf.class.getDeclaredClasses()) {
-            DUE.is(c.getName() + " is private", Modifier.toString(c.getModifiers()), "private static final");
-            for (Method m : c.getDeclaredMethods()) {
-                DUE.is(m.getName() + " is not a name of the face", open.contains(m.getName()), false);
-            }
+        Class<?>[] inside = ScoreSheaf.class.getDeclaredClasses();
+        for (Class<?> c : inside) {
+            int shown = c.getModifiers() & (Modifier.PUBLIC | Modifier.PROTECTED);
+            DUE.is("rule 1: " + c.getName() + " is private or package-visible", shown, 0);
         }
+        DUE.is("rule 11: some twelve classes", inside.length < MOST_CLASSES, true);
     }
 
     private static void source(List<String> lines) {
-        int since = 0;
         for (int at = 0; at < lines.size(); at++) {
-            String line = lines.get(at);
-            String code = line.contains("//") || line.contains("/**") ? "" : line;
+            String code = codeOf(lines.get(at));
             for (String word : RULED_OUT) {
-                DUE.is("line " + (at + 1) + " has " + word, code.contains(word), false);
+                DUE.is("line " + (at + 1) + " has " + word, Pattern.compile(word).matcher(code).find(), false);
             }
-            if (line.startsWith("import ")) {
-                boolean known = line.equals("import java.util.Arrays;")
-                    || line.equals("import java.util.NoSuchElementException;");
-                DUE.is("line " + (at + 1) + " imports what is listed", known, true);
+            boolean lambda = code.contains("->") && !code.matches(" *(case|default)\\b.*");
+            DUE.is("line " + (at + 1) + " has a lambda", lambda, false);
+        }
+        methods(lines, 4);
+        methods(lines, 8);
+    }
+
+    /** Without texts and comments, which may have any word. */
+    private static String codeOf(String line) {
+        return line.replaceAll("\"[^\"]*\"|'[^']*'|//.*|/\\*.*|^ *\\*.*", "");
+    }
+
+    /** Those that stand so far in: methods of the class, or of the classes inside it. */
+    private static void methods(List<String> lines, int indent) {
+        int opened = -1;
+        for (int at = 0; at < lines.size(); at++) {
+            String code = codeOf(lines.get(at));
+            if (code.matches(" {" + indent + "}\\S.*\\{")) {
+                opened = code.matches(".*\\b(class|enum|interface|record)\\b.*") ? -1 : at;
             }
-            since = line.isEmpty() ? 0 : since + 1;
-            DUE.is("line " + (at + 1) + " stands in a short method", since <= 60, true);
+            if (code.matches(" {" + indent + "}\\}")) {
+                boolean isShort = opened < 0 || at - opened < MOST_LINES;
+                DUE.is("rule 11: what ends in line " + (at + 1) + " is short", isShort, true);
+                opened = -1;
+            }
         }
     }
 }

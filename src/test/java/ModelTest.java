@@ -3,13 +3,15 @@ import java.util.Random;
 /** Long runs of drawn calls, with fixed seeds, on the class and on the plain model side by side. */
 public final class ModelTest {
     private static final int RUNS = 3000;
-    private static final int CALLS = 500;
+    /** Behind so many drawn calls there is room to ask for every version, within the 512 of an object. */
+    private static final int DRAWN_CALLS = 470;
 
     private final Due due;
     private final Random random;
     private final int seed;
     private final ScoreSheaf sheaf = new ScoreSheaf();
     private final PlainContest plain = new PlainContest();
+    private int calls;
 
     private ModelTest(Due due, int seed) {
         this.due = due;
@@ -27,7 +29,7 @@ public final class ModelTest {
 
     private void run() {
         boolean small = random.nextInt(3) > 0;
-        for (int call = 0; call < CALLS; call++) {
+        while (calls < DRAWN_CALLS) {
             step(small);
         }
         for (int v = 0; v < plain.versions(); v++) {
@@ -37,6 +39,7 @@ public final class ModelTest {
     }
 
     private void both(String what, Due.Call got, Due.Call want) {
+        calls++;
         due.is("seed " + seed + ": " + what, Due.answerOf(got), Due.answerOf(want));
     }
 
