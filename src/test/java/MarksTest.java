@@ -34,6 +34,7 @@ public final class MarksTest {
         DUE.test("ranked by all rounds but the hidden one", MarksTest::rankedByOpenRounds);
         DUE.test("of several alike by the hidden one", MarksTest::rankedByHiddenRound);
         DUE.test("then by their marks", MarksTest::rankedByMarks);
+        DUE.test("then by their marks, of fewer points", MarksTest::rankedByFewerPoints);
         DUE.test("round 0, then 1, then 2", MarksTest::rankedByRounds);
         DUE.test("those that count", MarksTest::rankedByThoseThatCount);
         DUE.test("then by lower numbers", MarksTest::rankedByNumbers);
@@ -145,7 +146,7 @@ public final class MarksTest {
         Run x = withPieces(6);
         for (int round = 0; round < 4; round++) {
             for (int piece = 0; piece < 6; piece++) {
-                x.hear(round, piece);
+                is("17 none before", x.hear(round, piece), -1);
                 for (int juror = 0; juror < 5; juror++) {
                     int mark = (round * 7 + piece * 5 + juror * 3) % 21;
                     is("18 none before", x.mark(juror, round, piece, mark), -1);
@@ -496,6 +497,8 @@ public final class MarksTest {
             {{5, 5, 2, 1}, {5, 5, 2, 2}}, {{9, 5, 2, 1}, {9, 5, 2, 2}}, {{8, 5, 2, 2}, {9, 5, 2, 2}}, {{7}, {0, 3, 4, 9}},
             {{19, 19, 19, 19, 0}, {20, 20, 19, 18, 0}}, {{20, 10, 10, 10, 9}, {20, 10, 10, 10, 10}},
             {{12, 12}, {12, 12, 0}}, {{3, 2, 2}, {3, 3, 1}}, {{16, 4}, {17, 3}}, {{10, 10}, {20}},
+            {{20, 20}, {20, 20, 20, 20}}, {{20, 20, 20}, {20, 20, 20, 20, 20}}, {{20, 20, 20, 0}, {20, 20, 20, 20}},
+            {{20, 19, 19, 19}, {20, 20, 18, 0}}, {{0, 0, 0, 0}, {1, 0, 0, 0, 0}}, {{1, 1, 1, 1, 1}, {2, 1, 1, 1, 0}},
         };
         for (int[][] pair : pairs) {
             for (int round = 0; round < 3; round++) {
@@ -506,6 +509,37 @@ public final class MarksTest {
         z.heardAndMarked(0, 0, 1, 2, 3);
         z.heardAndMarked(0, 1, 3, 1, 2);
         is("22 sorted: the jurors do not matter", z.order(), "01");
+    }
+
+    /** A round in which the piece ahead has fewer points; a later one makes up for them. */
+    private static void rankedByFewerPoints() {
+        int[][][] pairs = {
+            {{19, 19, 19, 19, 19}, {20}}, {{19, 19, 19, 19}, {20}}, {{19, 19, 19}, {20, 0}}, {{5, 5, 5, 5, 5}, {6}},
+            {{5, 5, 5, 5}, {6, 0}}, {{1, 1, 1, 1, 1}, {2}}, {{1, 1, 1, 1, 1}, {1, 1, 1, 1, 1}}, {{9, 9, 9}, {10, 2}},
+            {{20, 20, 19}, {20, 20, 20, 0}}, {{20, 20, 19}, {20, 20, 20, 20}}, {{7, 6, 6}, {7, 7}}, {{7, 6, 6, 6, 6}, {7, 7}},
+            {{3}, {3, 0, 0, 0, 0}}, {{3, 3, 3}, {3, 3, 3, 3}}, {{3, 3, 3}, {3, 3, 3, 0}}, {{0, 4, 5}, {6}},
+            {{18, 18, 18}, {0, 19, 0}}, {{}, {0, 0, 0, 0}}, {{2, 2, 2}, {0, 0, 0, 0, 3}},
+        };
+        for (int[][] pair : pairs) {
+            for (int round = 0; round < 2; round++) {
+                for (int later = round + 1; later < 3; later++) {
+                    String what = "row " + Arrays.toString(pair[1]) + " in round " + round + ", later " + later;
+                    Run x = withPieces(3);
+                    x.heardAndMarked(round, 1, pair[0]);
+                    x.heardAndMarked(round, 2, pair[1]);
+                    int fewer = x.points(round, 1) - x.points(round, 2);
+                    x.hear(later, 2);
+                    for (int juror = 0; juror < 3 && fewer > 0; juror++) {
+                        x.mark(juror, later, 2, Math.min(fewer, 20));
+                        fewer -= 20;
+                    }
+                    x.hear(later, 1);
+                    is("23 as many points together, " + what, x.isTied(1) && x.isTied(2), true);
+                    boolean alike = Arrays.equals(pair[0], pair[1]);
+                    is("22 by falling marks, " + what, x.order().replace("0", ""), alike ? "12" : "21");
+                }
+            }
+        }
     }
 
     private static void rankedByMarks(int[] behind, int[] ahead, int round) {
