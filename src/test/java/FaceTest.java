@@ -12,11 +12,11 @@ import java.util.regex.Pattern;
 
 /** The face of the class is the document's, and the source keeps to the rules of LANGUAGE.md that its words show. */
 public final class FaceTest {
-    private static final String[] RULED_OUT = {"::", "\\bfinally\\b", "\\bsynchronized\\b", "\\bassert\\b", "\\bprotected\\b",
-        "\\bvolatile\\b", "\\bnative\\b", "\\bThread\\b", "\\bRandom\\b", "\\bSystem\\.(?!arraycopy)", "Exact\\(", "hashCode",
-        "^package ", "getMessage", "extends \\w*Exception", "^import java\\.(?!util\\.(Arrays|ArrayList|List|Iterator"
-        + "|NoSuchElementException);)", "^import (?!java\\.)", "catch .*(Throwable|\\(Exception|ArrayIndexOutOfBounds"
-        + "|NullPointer|ClassCast|NegativeArraySize|ArrayStore)"};
+    private static final String[] RULED_OUT = {"::", "\\bfinally\\b", "\\bsynchronized\\b", "\\bassert\\b",
+        "\\bprotected\\b", "\\bvolatile\\b", "\\bnative\\b", "\\bThread\\b", "\\bRandom\\b", "Exact\\(", "hashCode",
+        "getMessage", "extends \\w*Exception", "\\bSystem\\.(?!arraycopy)", "^package ", "^import (?!java\\.)",
+        "^import java\\.(?!util\\.(Arrays|ArrayList|List|Iterator|NoSuchElementException);)",
+        "catch .*(Throwable|\\(Exception|ArrayIndexOutOf|NullPointer|ClassCast|NegativeArraySize|ArrayStore)"};
     /** 'Some sixty' and 'some twelve'. */
     private static final int MOST_LINES = 66;
     private static final int MOST_CLASSES = 14;

@@ -321,8 +321,8 @@ public final class RefusalTest {
                     tried(stand, "19 affirm" + call + ")", x -> x.affirm(juror, round, piece), ahead,
                         unless(asked, ELEMENT));
                     for (int mark : around(0, 20)) {
-                        tried(stand, "18 mark" + call + ", " + mark + ")", x -> x.mark(juror, round, piece, mark), ahead,
-                            unless(in(mark, 0, 20), ARGUMENT), unless(heard, OPERATION));
+                        tried(stand, "18 mark" + call + ", " + mark + ")", x -> x.mark(juror, round, piece, mark),
+                            ahead, unless(in(mark, 0, 20), ARGUMENT), unless(heard, OPERATION));
                     }
                 }
             }
